@@ -648,6 +648,28 @@ public final class PromiseTest {
         due("none left", x.store(0, 0), 0);
     }
 
+    /** Bales bought at a told price of 1 and sold at one of 1000: millions of coin, whose parts are beyond an int. */
+    private static void divisionOfMillions() {
+        VoyageCompany x = coinAt(1, 90000);
+        Check.instruct(x, 1, "if month=3:buy pepper 99999;if month=4:sell pepper 99999;"
+                + "if month=5:buy pepper 5000;if month=6:sell pepper 99999;");
+        for (int i = 0; i < 2; i++) {
+            x.market(1, 1, 1);
+            x.months(1);
+            x.market(1, 1, 1000);
+            x.months(1);
+        }
+        Check.instruct(x, 1, "if coin>0:pay 99999;sail 0;");
+        x.months(60);
+        x.unload(0);
+        int most = x.store(0, 0);
+        x.transfer(0, 1, 1);
+        due("millions at home", most > 3000000, true);
+        due("divide", x.divide(0, most), most / 1000 + (int) (most * 999L / 1000));
+        due("got 0", x.got(0, 0), (int) (most * 999L / 1000));
+        due("got 1", x.got(1, 0), most / 1000);
+    }
+
     private static void images() {
         VoyageCompany x = company(5);
         due("image 3", x.image(3), false);
@@ -724,6 +746,7 @@ public final class PromiseTest {
         news();
         dividing();
         largeDivision();
+        divisionOfMillions();
         images();
         imageKeepsNotes();
         CHECK.finish();
