@@ -12,24 +12,6 @@ public final class PromiseTest {
         CHECK.due(what, got, want);
     }
 
-    /** A company with n shares of person 0, and a ship that will not be lost. */
-    private static VoyageCompany company(int n) {
-        VoyageCompany x = new VoyageCompany();
-        x.subscribe(0, n);
-        x.ship(100, 0, 0, 1);
-        return x;
-    }
-
-    /** A company whose ship 0 brought so much coin to a port; the month is the one after it was unloaded. */
-    private static VoyageCompany coinAt(int port, int coin) {
-        VoyageCompany x = company(1000);
-        x.load(0, 0, coin);
-        x.sail(0, port);
-        Check.instruct(x, port, "unload;");
-        x.months(2 * port + 1);
-        return x;
-    }
-
     private static void newObject() {
         VoyageCompany x = new VoyageCompany();
         for (int i = 0; i < 4; i++) {
@@ -163,7 +145,7 @@ public final class PromiseTest {
     }
 
     private static void loadAndUnload() {
-        VoyageCompany x = company(10);
+        VoyageCompany x = Scenes.company(10);
         due("no such ship", x.load(1, 0, 1), -1);
         due("ship -1", x.load(-1, 0, 1), -1);
         due("good 4", x.load(0, 4, 1), -1);
@@ -188,16 +170,8 @@ public final class PromiseTest {
         due("unload far off", x.unload(0), -1);
     }
 
-    /** Ship 0 sails to port 1 with coin, and comes home with pepper. */
-    private static VoyageCompany homeWithPepper(int bales) {
-        VoyageCompany x = coinAt(1, 90000);
-        Check.instruct(x, 1, "if pepper=0 and ships=1:buy pepper " + bales + ";if room>" + (100 - bales) + ":load pepper 500;sail 0;");
-        x.months(8);
-        return x;
-    }
-
     private static void balesAtHome() {
-        VoyageCompany x = homeWithPepper(60);
+        VoyageCompany x = Scenes.homeWithPepper(60);
         due("at home", x.tell(0, 0), 0);
         due("cargo", x.tell(0, 11), 60);
         due("unload", x.unload(0), 60);
@@ -214,7 +188,7 @@ public final class PromiseTest {
     }
 
     private static void carriedCannotBeLoaded() {
-        VoyageCompany x = company(2);
+        VoyageCompany x = Scenes.company(2);
         x.subscribe(1, 1);
         due("divide 1 of 3 shares", x.divide(0, 1), 0);
         due("carried", x.carried(0), 1);
@@ -225,7 +199,7 @@ public final class PromiseTest {
     }
 
     private static void sail() {
-        VoyageCompany x = company(1);
+        VoyageCompany x = Scenes.company(1);
         due("no such ship", x.sail(1, 1), -1);
         due("ship -1", x.sail(-1, 1), -1);
         due("port 0", x.sail(0, 0), -1);
@@ -311,7 +285,7 @@ public final class PromiseTest {
     }
 
     private static void buying() {
-        VoyageCompany x = coinAt(1, 50000);
+        VoyageCompany x = Scenes.coinAt(1, 50000);
         due("coin there", x.store(1, 0), 50000);
         Check.instruct(x, 1, "if pepper<25:buy pepper 25;");
         x.market(1, 1, 7);
@@ -339,7 +313,7 @@ public final class PromiseTest {
     }
 
     private static void selling() {
-        VoyageCompany x = coinAt(2, 5000);
+        VoyageCompany x = Scenes.coinAt(2, 5000);
         Check.instruct(x, 2, "if cloth=0:buy cloth 47;if cloth=47:sell cloth 25;sell cloth 99;");
         x.market(2, 2, 2);
         x.months(1);
@@ -361,7 +335,7 @@ public final class PromiseTest {
     }
 
     private static void loadAndPay() {
-        VoyageCompany x = coinAt(1, 3000);
+        VoyageCompany x = Scenes.coinAt(1, 3000);
         Check.instruct(x, 1, "if month=3:buy silk 120;if month=4:load silk 70;if month=5:load silk 99999;if month=6:pay 100;if month=7:pay 99999;if month=8:unload;");
         x.months(1);
         due("silk", x.store(1, 3), 120);
@@ -384,7 +358,7 @@ public final class PromiseTest {
     }
 
     private static void withoutShip() {
-        VoyageCompany x = coinAt(1, 3000);
+        VoyageCompany x = Scenes.coinAt(1, 3000);
         x.subscribe(0, 1);
         Check.instruct(x, 1, "if ships=0:pay 10;sail 0;");
         x.months(1);
@@ -545,7 +519,7 @@ public final class PromiseTest {
     }
 
     private static void wrongPlaces() {
-        VoyageCompany x = company(1);
+        VoyageCompany x = Scenes.company(1);
         x.months(1);
         int[] ports = {-1, 5, MIN, MAX};
         for (int port : ports) {
@@ -579,7 +553,7 @@ public final class PromiseTest {
     }
 
     private static void news() {
-        VoyageCompany x = coinAt(2, 700);
+        VoyageCompany x = Scenes.coinAt(2, 700);
         // coin came into store 2 in month 4: NEWS of it is at HOME when month 10 is over
         due("noted 3", x.noted(2, 0, 3), 0);
         due("noted 4", x.noted(2, 0, 4), 700);
@@ -650,7 +624,7 @@ public final class PromiseTest {
 
     /** Bales bought at a told price of 1 and sold at one of 1000: millions of coin, whose parts are beyond an int. */
     private static void divisionOfMillions() {
-        VoyageCompany x = coinAt(1, 90000);
+        VoyageCompany x = Scenes.coinAt(1, 90000);
         Check.instruct(x, 1, "if month=3:buy pepper 99999;if month=4:sell pepper 99999;"
                 + "if month=5:buy pepper 5000;if month=6:sell pepper 99999;");
         for (int i = 0; i < 2; i++) {
@@ -671,7 +645,7 @@ public final class PromiseTest {
     }
 
     private static void images() {
-        VoyageCompany x = company(5);
+        VoyageCompany x = Scenes.company(5);
         due("image 3", x.image(3), false);
         due("image -1", x.image(-1), false);
         due("again 3", x.again(3), false);
@@ -705,7 +679,7 @@ public final class PromiseTest {
     }
 
     private static void imageKeepsNotes() {
-        VoyageCompany x = company(1);
+        VoyageCompany x = Scenes.company(1);
         x.months(60);
         x.image(1);
         x.divide(0, 30);
