@@ -3,8 +3,8 @@ import java.util.List;
 /** Promises 27 and 28: all that is told comes again as it was, and goes on as it would have. */
 public final class ImageTest {
     private static final Check CHECK = new Check("ImageTest");
-    private static final int[] SEEDS = {1, 4, 5, 9, 12, 77, -3, 1000};
-    private static final int RISK = 45;
+    private static final int[] SEEDS = {1, 4, 5, 9, 12, 77, -3, 1000, 33, 34, 65536, -70000};
+    private static final int RISK = 35;
 
     private static VoyageCompany midway(int seed) {
         return Scenes.midway(seed, RISK);
@@ -33,14 +33,23 @@ public final class ImageTest {
         x.months(19);
     }
 
+    /** What shows itself only later: the text on the tape, seeds and risks, letters, counts of bales. */
     private static List<String> later(VoyageCompany x) {
         x.orders(4);
-        x.unload(3);
+        x.subscribe(0, 1);
         x.sail(3, 2);
         x.months(8);
+        x.unload(3);
         x.divide(0, 7);
         x.divide(1, 2);
-        x.months(30);
+        Check.instruct(x, 2, "if pepper>0:sell pepper 3;sail 0;");
+        Check.instruct(x, 3, "sail 0;");
+        Check.instruct(x, 4, "sail 0;");
+        x.months(12);
+        for (int ship = 0; ship < 4; ship++) {
+            x.sail(ship, 1);
+        }
+        x.months(8);
         return Told.of(x);
     }
 
@@ -67,6 +76,115 @@ public final class ImageTest {
             VoyageCompany x = upsetAndBack(seed, 1);
             CHECK.due("the tape", x.end(Scenes.MIDWAY_TAPE + 1), -1);
             CHECK.due("the tape", x.end(Scenes.MIDWAY_TAPE), Scenes.MIDWAY_TAPE);
+        }
+    }
+
+    /** Another course of things, up to the same month, with other ships and prices and nothing divided. */
+    private static void takeAnotherCourse(VoyageCompany x) {
+        x.subscribe(3, 50);
+        for (int i = 0; i < 4; i++) {
+            x.ship(70 + i, 40, 1 + 20 * i, -5 * i);
+            x.load(i, 0, 100);
+            x.sail(i, 3);
+        }
+        x.market(3, 1, 2);
+        Check.instruct(x, 3, "if coin=0:unload;buy pepper 9;");
+        x.months(9);
+    }
+
+    private static VoyageCompany anotherCourseAndBack(int seed) {
+        VoyageCompany x = new VoyageCompany();
+        x.image(2);
+        Scenes.bringMidway(x, seed, RISK);
+        x.image(0);
+        x.again(2);
+        takeAnotherCourse(x);
+        CHECK.due("back to midway", x.again(0), true);
+        return x;
+    }
+
+    /** The company that image k brings again need not be an earlier one of the same course. */
+    private static void backFromAnotherCourse() {
+        for (int seed : SEEDS) {
+            same("told", Told.of(anotherCourseAndBack(seed)), Told.of(midway(seed)));
+            same("later", later(anotherCourseAndBack(seed)), later(midway(seed)));
+            same("notes", Told.notes(anotherCourseAndBack(seed), 0, 9), Told.notes(midway(seed), 0, 9));
+        }
+        VoyageCompany x = new VoyageCompany();
+        takeAnotherCourse(x);
+        x.image(1);
+        x.divide(0, 1);
+        x.again(1);
+        CHECK.due("nothing is divided any more", x.subscribe(3, 1), 51);
+    }
+
+    /** Notes of the months that the image had, page by page, though the company has others of the same months by then. */
+    private static void notesOfAnotherCourse() {
+        VoyageCompany x = Scenes.company(100);
+        x.image(0);
+        for (int i = 0; i < 25; i++) {
+            x.load(0, 0, 10);
+            x.months(6);
+        }
+        x.image(1);
+        x.again(0);
+        x.load(0, 0, 5000);
+        x.months(60);
+        x.months(60);
+        x.months(40);
+        x.again(1);
+        for (int month = 0; month < 150; month++) {
+            CHECK.due("note of month " + month, x.noted(0, 0, month), 10000 - 10 * (month / 6 + 1));
+        }
+        CHECK.due("month 150 is not over", x.noted(0, 0, 150), -1);
+    }
+
+    /** The bytes on the tape, not their number alone. */
+    private static void tapeComesAgain() {
+        VoyageCompany x = new VoyageCompany();
+        Check.write(x, "wait;wait;");
+        x.image(0);
+        x.end(0);
+        Check.write(x, "?".repeat(60));
+        x.again(0);
+        CHECK.due("ten bytes", x.end(11), -1);
+        CHECK.due("its two lines", x.orders(1), 2);
+    }
+
+    /** Nine bales were bought and nine sold: the tenth moves the price, though others were counted before the return. */
+    private static void countsOfBalesComeAgain() {
+        VoyageCompany x = Scenes.coinAt(1, 10000);
+        Scenes.order(x, 1, "buy cloth 9;");
+        Scenes.order(x, 1, "sell cloth 9;");
+        int coin = x.store(1, 0);
+        x.image(0);
+        Scenes.order(x, 1, "buy cloth 6;");
+        Scenes.order(x, 1, "sell cloth 6;");
+        x.again(0);
+        Scenes.order(x, 1, "buy cloth 2;");
+        CHECK.due("the tenth at 10, the next at 11", coin - x.store(1, 0), 21);
+        coin = x.store(1, 0);
+        Scenes.order(x, 1, "sell cloth 2;");
+        CHECK.due("the tenth at 10, the next at 9", x.store(1, 0) - coin, 19);
+    }
+
+    /** A ship with its own numbers, though another one had its place before the return. */
+    private static void shipComesAgain() {
+        int[][] ships = {{11, 2, 99, 1}, {12, 3, 0, 1}};
+        for (int i = 0; i < 2; i++) {
+            VoyageCompany x = new VoyageCompany();
+            x.image(0);
+            x.ship(ships[i][0], ships[i][1], ships[i][2], ships[i][3]);
+            x.image(1);
+            x.again(0);
+            x.ship(ships[1 - i][0], ships[1 - i][1], ships[1 - i][2], ships[1 - i][3]);
+            x.again(1);
+            CHECK.due("hold", x.tell(0, 3), ships[i][0]);
+            x.sail(0, 1);
+            Check.instruct(x, 1, "sail 0;");
+            x.months(4);
+            CHECK.due("lost by its risk", x.tell(0, 0), i == 0 ? -2 : -1);
+            CHECK.due("own by its licence", x.tell(0, 4), i == 0 ? 0 : 3);
         }
     }
 
@@ -163,6 +281,11 @@ public final class ImageTest {
 
     public static void main(String[] args) {
         allComesAgain();
+        backFromAnotherCourse();
+        notesOfAnotherCourse();
+        tapeComesAgain();
+        countsOfBalesComeAgain();
+        shipComesAgain();
         imagesStayAsTheyAre();
         otherImagesStay();
         imageAnew();

@@ -60,6 +60,15 @@ public final class LanguageTest {
         CHECK.due("the constructor is public", Modifier.isPublic(constructors[0].getModifiers()), true);
     }
 
+    private static boolean isOfFace(String name) {
+        for (String signature : FACE) {
+            if (signature.contains(" " + name + "(")) {
+                return true;
+            }
+        }
+        return false;
+    }
+
     private static void classesInside() {
         Class<?>[] inside = VoyageCompany.class.getDeclaredClasses();
         CHECK.due("at most twelve classes", inside.length + 1 <= 12, true);
@@ -75,6 +84,8 @@ public final class LanguageTest {
             CHECK.due(type + " has at most twenty fields", fields <= 20, true);
             for (Method method : type.getDeclaredMethods()) {
                 CHECK.due(method + " takes at most seven", method.getParameterCount() <= 7, true);
+                boolean hidden = Modifier.isPrivate(method.getModifiers());
+                CHECK.due(method + " is private and named as a public one", hidden && isOfFace(method.getName()), false);
             }
         }
     }

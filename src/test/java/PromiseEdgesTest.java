@@ -254,8 +254,8 @@ public final class PromiseEdgesTest {
 
     /** Promises 16 and 17: "NONE if there is none such", "NONE: there is no such MARKET" */
     private static void storeAndPrice() {
-        VoyageCompany x = Scenes.company(1);
         for (int port : NUMBERS) {
+            VoyageCompany x = Scenes.company(1);
             for (int good : NUMBERS) {
                 boolean is = within(0, port, 4) && within(0, good, 3);
                 String name = "(" + port + ", " + good + ")";
@@ -352,7 +352,7 @@ public final class PromiseEdgesTest {
         VoyageCompany x = Scenes.midway(1, 0);
         long[][] wanted = {
             // four bales were sold at 13, four at 12, two at 12 and two at 11; 25 bought at 7 to 9, and 25 at 12 to 14
-            {89700 + 52 + 48 + 46, 85817, 2003, 195 + 320, 1501, 10, 0},
+            {89700 + 52 + 48 + 46, 85818, 2003, 195 + 320, 1501, 9, 0},
             {25 + 25 + 6 + 7, 26, 15, 12, 0, 4, 6},
             {0, 0, 0, 0, 0, 0, 0},
             {0, 0, 0, 0, 0, 0, 0},
@@ -397,7 +397,7 @@ public final class PromiseEdgesTest {
     private static void carried() {
         VoyageCompany x = Scenes.midway(1, 0);
         for (int n : NUMBERS) {
-            due("carried of " + n, x.carried(n), !within(0, n, 3) ? -1 : n <= 1 ? 1 : 0);
+            due("carried of " + n, x.carried(n), !within(0, n, 3) ? -1 : n == 0 ? 2 : n == 1 ? 1 : 0);
         }
         due("it lies in HOME's STORE", x.store(0, 1), 8);
     }

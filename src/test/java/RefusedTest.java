@@ -111,7 +111,7 @@ public final class RefusedTest {
         refuseFalse("transfer(0, 10, 1)", x -> x.transfer(0, 10, 1));
         refuseFalse("transfer(0, 1, 0)", x -> x.transfer(0, 1, 0));
         refuseFalse("transfer(0, 1, -1)", x -> x.transfer(0, 1, -1));
-        refuseFalse("transfer(0, 1, one more)", x -> x.transfer(0, 1, 701));
+        refuseFalse("transfer(0, 1, one more)", x -> x.transfer(0, 1, x.shares(0) + 1));
         refuseFalse("transfer(2, 0, 1)", x -> x.transfer(2, 0, 1));
     }
 

@@ -48,18 +48,24 @@ final class Scenes {
 
     /**
      * Month 9, with something of each kind. With seed 1 and risk 0 ship 0 is at sea with pepper and coin, ship 1 is lost,
-     * ship 2 is at port 2, and ship 3 at home with own bales; other seeds and risks may lose ships 0 and 2, too.
+     * ship 2 is at port 2, and ship 3 at home with own bales; other seeds and risks may lose others of them, too.
      * Coin and pepper were divided and are carried in part, letters came and others are under way,
      * the latest orders had a fault, and a text of MIDWAY_TAPE bytes is on the tape.
      */
     static VoyageCompany midway(int seed, int risk) {
         VoyageCompany x = new VoyageCompany();
+        bringMidway(x, seed, risk);
+        return x;
+    }
+
+    /** Makes a new one such a company. */
+    static void bringMidway(VoyageCompany x, int seed, int risk) {
         x.subscribe(0, 700);
         x.subscribe(1, 197);
         x.ship(40, 6, risk, seed);
         x.ship(30, 5, 99, seed);
-        x.ship(20, 4, 30, seed + 1);
-        x.ship(60, 7, 0, seed + 2);
+        x.ship(20, 4, risk, seed + 1);
+        x.ship(60, 7, risk, seed + 2);
         for (int i = 0; i < 4; i++) {
             x.load(i, 0, 1500 + i);
         }
@@ -80,11 +86,11 @@ final class Scenes {
         x.load(0, 1, 5);
         x.load(0, 0, 500);
         x.load(3, 1, 3);
+        x.transfer(0, 9, 150);
         x.divide(0, 11);
         x.divide(1, 5);
         x.sail(0, 4);
         Check.instruct(x, 1, "sail 9;");
         Check.write(x, "if letter=80:wait;wait;");
-        return x;
     }
 }

@@ -600,8 +600,10 @@ public final class TermEdgesTest {
             due("the one sent last to " + port, x.factor(port, 2), 1);
             x.months(1);
             due("then the next to " + port, x.factor(port, 2), 22);
-            x.months(30);
-            due("it stays the last", x.factor(port, 2), 22);
+            for (int i = 0; i < 40; i++) {
+                x.months(1);
+                due("it stays the last", x.factor(port, 2), 22);
+            }
         }
     }
 
